@@ -1,0 +1,43 @@
+/** Promise 2: device(kind, v) makes devices, numbered from 0 on, up to 300. */
+public final class Promise02DeviceTest {
+    private static void eachKind() {
+        LineOfHeirs house = new LineOfHeirs();
+        int[] values = {0, 1, -1, 7, 100, Integer.MAX_VALUE, Integer.MIN_VALUE, 31, -31, 85, 65536};
+        for (int kind = 0; kind < 11; kind++) {
+            Due.is("device(" + kind + ", ..)", house, house.device(kind, values[kind]), kind, 0);
+            Due.is("state(" + kind + ", 0)", house.state(kind, 0), kind);
+            Due.is("state(" + kind + ", 1)", house.state(kind, 1), values[kind]);
+            Due.is("state(" + kind + ", 2)", house.state(kind, 2), 0);
+        }
+        Due.is("size(0)", house.size(0), 11);
+        Due.chain("making devices", house);
+    }
+
+    private static void wrongKinds() {
+        LineOfHeirs house = new LineOfHeirs();
+        for (int kind : new int[] {-1, 11, 12, 256, Integer.MIN_VALUE, Integer.MAX_VALUE}) {
+            Due.is("device(" + kind + ", 1)", house, house.device(kind, 1), LineOfHeirs.NONE, 1);
+            Due.is("size(0)", house.size(0), 0);
+        }
+        Due.is("device(0, 1) after wrong ones", house, house.device(0, 1), 0, 0);
+    }
+
+    private static void noRoom() {
+        LineOfHeirs house = new LineOfHeirs();
+        for (int d = 0; d < 300; d++) {
+            Due.is("device number " + d, house, house.device(d % 11, d), d, 0);
+        }
+        Due.is("device 301", house, house.device(0, 1), LineOfHeirs.NONE, 5);
+        Due.is("a wrong kind where there is no room", house, house.device(11, 1), LineOfHeirs.NONE, 1);
+        Due.is("size(0)", house.size(0), 300);
+        Due.is("state(299, 1)", house, house.state(299, 1), 299, 0);
+        Due.is("state(300, 1)", house, house.state(300, 1), 0, 1);
+    }
+
+    public static void main(String[] args) {
+        eachKind();
+        wrongKinds();
+        noRoom();
+        Due.end("Promise02DeviceTest");
+    }
+}
