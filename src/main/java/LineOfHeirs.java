@@ -401,7 +401,7 @@ public final class LineOfHeirs {
             return bits;
         }
 
-        /** Of an interface, this is the body that its own 'super' means. */
+        /** For an interface, this is the body that 'super' behind its name means. */
         private static int select(int type, int act, int[] borne) {
             int body = bodyOfLine(type, act);
             return body != NO_BODY ? body : bodyOfInterfaces(type, act, borne);
@@ -521,7 +521,7 @@ public final class LineOfHeirs {
         private void take(int x, int pulse) {
             taken++;
             latestPulse = pulse;
-            tookAnswer = answer(takingAct(), x);
+            tookAnswer = act(takingAct(), x, 0);
         }
 
         private int takingAct() {

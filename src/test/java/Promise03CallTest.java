@@ -75,6 +75,34 @@ public final class Promise03CallTest {
         one(LEDGER, 0, LOG, 2, ways(0, 6), 67, 51, 52, 204, 70, 204, 70);
     }
 
+    /** The selected body of each act of each kind; 0 where the kind does not have the act. */
+    private static void selected() {
+        int[][] bodies = {
+            {100, 10, 11, 62, 0, 70, 0, 0, 0, 101, 61, 64},
+            {0, 0, 21, 62, 111, 70, 0, 0, 0, 60, 110, 64},
+            {0, 0, 0, 62, 0, 70, 120, 41, 0, 60, 61, 64},
+            {130, 131, 11, 62, 0, 70, 0, 0, 0, 101, 61, 64},
+            {140, 10, 141, 62, 111, 70, 0, 0, 0, 60, 142, 64},
+            {150, 10, 30, 62, 152, 70, 120, 41, 0, 151, 61, 64},
+            {0, 0, 0, 62, 0, 160, 40, 50, 161, 163, 61, 64},
+            {0, 0, 0, 62, 0, 70, 120, 50, 51, 60, 61, 64},
+            {130, 131, 181, 62, 0, 70, 0, 0, 0, 180, 61, 64},
+            {190, 10, 30, 62, 111, 70, 0, 0, 0, 60, 110, 64},
+            {140, 10, 202, 62, 111, 204, 40, 201, 51, 60, 142, 64}
+        };
+        for (int kind = 0; kind < bodies.length; kind++) {
+            for (int act = 0; act < 12; act++) {
+                LineOfHeirs house = new LineOfHeirs();
+                house.device(kind, 5);
+                int body = bodies[kind][act];
+                house.call(0, act, 0, 1);
+                String what = "kind " + kind + ": call(0, " + act + ", 0, 1)";
+                Due.is("status() after " + what, house.status(), body == 0 ? 3 : 0);
+                Due.is("chain(0) after " + what, house.chain(0), body == 0 ? LineOfHeirs.NONE : body);
+            }
+        }
+    }
+
     private static void wraps() {
         one(PUMP, Integer.MAX_VALUE, READ, 1, ways(0, 2), Integer.MIN_VALUE, 100);
         one(VALVE, 1 << 30, WRITE, 0, ways(0, 1, 3), -(1 << 30), 62);
@@ -135,6 +163,7 @@ public final class Promise03CallTest {
         meters();
         mutes();
         ledgers();
+        selected();
         wraps();
         refused();
         actsOfWays();

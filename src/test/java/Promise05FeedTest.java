@@ -26,6 +26,8 @@ public final class Promise05FeedTest {
         one(0, 1, 0x20A00019, 10, 100, 100, 100, 101, 60);
         // reads of 0 less 0, of 5, of 0 less 15, of 5
         one(0, 5, 0xA020A020, 5 + 10 - 10 + 10, 100, 100, 100, 100);
+        // bit 7 alone: read by the kind
+        one(0, 5, 0x80008000, 5 + 10 - 10 + 10, 100, 100, 100, 100);
         // act 12, way 7, a way not borne and an act that the way does not have: all are left out
         one(0, 5, 0x0C703010, 0);
         // one that is left out leaves the sum as it was
