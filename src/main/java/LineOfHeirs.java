@@ -383,6 +383,10 @@ public final class LineOfHeirs {
             return isType(type) && isAct(act) ? BODIES[type * ACTS + act] : NO_BODY;
         }
 
+        private static boolean bearsOne(int type, int one, int[] borne) {
+            return isType(type) && holds(borne[type], one);
+        }
+
         /** Needs the interfaces of all types before this one in place. */
         private static int interfacesOf(int type, int[] borne) {
             if (!isType(type)) {
@@ -421,7 +425,7 @@ public final class LineOfHeirs {
 
         private static int bodyOfInterfaces(int type, int act, int[] borne) {
             for (int one = READS; one <= LOGGED; one++) {
-                boolean has = holds(borne[type], one) && bodyOf(one, act) != NO_BODY;
+                boolean has = bearsOne(type, one, borne) && bodyOf(one, act) != NO_BODY;
                 if (has && !isOvertaken(one, type, act, borne)) {
                     return bodyOf(one, act);
                 }
@@ -432,8 +436,8 @@ public final class LineOfHeirs {
         /** Whether another interface that the type bears is under this one and has a body of the act. */
         private static boolean isOvertaken(int one, int type, int act, int[] borne) {
             for (int other = READS; other <= LOGGED; other++) {
-                boolean under = other != one && holds(borne[other], one);
-                if (under && holds(borne[type], other) && bodyOf(other, act) != NO_BODY) {
+                boolean under = other != one && bearsOne(other, one, borne);
+                if (under && bearsOne(type, other, borne) && bodyOf(other, act) != NO_BODY) {
                     return true;
                 }
             }

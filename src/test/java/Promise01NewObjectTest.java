@@ -6,13 +6,25 @@ public final class Promise01NewObjectTest {
             Due.is(which + " size(" + what + ")", house.size(what), 0);
         }
         Due.chain(which, house);
-        Due.is(which + " able(0, 0)", house.able(0, 0), LineOfHeirs.NONE);
+        for (int way = 0; way <= 6; way++) {
+            Due.is(which + " able(0, " + way + ")", house.able(0, way), LineOfHeirs.NONE);
+        }
         Due.is(which + " call(0, 3, 1, 1)", house, house.call(0, 3, 1, 1), 0, 1);
         Due.is(which + " link(0, 0)", house, house.link(0, 0), LineOfHeirs.NONE, 1);
+        Due.is(which + " feed(0, 0x13131313)", house, house.feed(0, 0x13131313), 0, 1);
         Due.is(which + " pass(0, 1)", house, house.pass(0, 1), 0, 1);
         Due.is(which + " state(0, 0)", house, house.state(0, 0), 0, 1);
         Due.is(which + " every(3, 1, 1)", house, house.every(3, 1, 1), 0, 0);
         Due.chain(which + " every", house);
+    }
+
+    /** "An object is used for at most 512 calls after it has been made": the last of them answers as the others. */
+    private static void theLastOf512Calls() {
+        LineOfHeirs house = new LineOfHeirs();
+        Due.is("call 1: device(0, 0)", house.device(0, 0), 0);
+        for (int call = 2; call <= 512; call++) {
+            Due.is("call " + call + ": call(0, 5, 1, 0)", house.call(0, 5, 1, 0), (call - 1) * 7);
+        }
     }
 
     public static void main(String[] args) {
@@ -25,6 +37,7 @@ public final class Promise01NewObjectTest {
         Due.is("the used one's size(0)", used.size(0), 1);
         Due.is("the used one's size(1)", used.size(1), 1);
         Due.is("the used one's state(0, 1)", used.state(0, 1), 157);
+        theLastOf512Calls();
         Due.end("Promise01NewObjectTest");
     }
 }

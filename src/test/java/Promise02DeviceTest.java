@@ -22,21 +22,40 @@ public final class Promise02DeviceTest {
         Due.is("device(0, 1) after wrong ones", house, house.device(0, 1), 0, 0);
     }
 
+    /** Where one is refused before the house is full, its number goes to the next. */
+    private static void roomForTheLast() {
+        LineOfHeirs house = new LineOfHeirs();
+        for (int d = 0; d < 299; d++) {
+            house.device(0, d);
+        }
+        Due.is("a wrong kind before the last", house, house.device(11, 1), LineOfHeirs.NONE, 1);
+        Due.is("device 300", house, house.device(0, 1), 299, 0);
+        Due.is("device 301", house, house.device(0, 1), LineOfHeirs.NONE, 5);
+    }
+
     private static void noRoom() {
         LineOfHeirs house = new LineOfHeirs();
         for (int d = 0; d < 300; d++) {
-            Due.is("device number " + d, house, house.device(d % 11, d), d, 0);
+            Due.is("device number " + d, house.device(d % 11, d), d);
         }
+        Due.is("status() of device 300", house.status(), 0);
         Due.is("device 301", house, house.device(0, 1), LineOfHeirs.NONE, 5);
+        Due.is("device 301 again", house, house.device(10, 1), LineOfHeirs.NONE, 5);
         Due.is("a wrong kind where there is no room", house, house.device(11, 1), LineOfHeirs.NONE, 1);
+        Due.is("a kind below 0 where there is no room", house, house.device(-1, 1), LineOfHeirs.NONE, 1);
         Due.is("size(0)", house.size(0), 300);
+        Due.is("state(0, 1)", house, house.state(0, 1), 0, 0);
+        Due.is("state(299, 0)", house, house.state(299, 0), 2, 0);
         Due.is("state(299, 1)", house, house.state(299, 1), 299, 0);
         Due.is("state(300, 1)", house, house.state(300, 1), 0, 1);
+        Due.is("the last one acts: call(299, 5, 1, 1)", house, house.call(299, 5, 1, 1), 8, 0);
+        Due.is("one behind the last: call(300, 5, 1, 1)", house, house.call(300, 5, 1, 1), 0, 1);
     }
 
     public static void main(String[] args) {
         eachKind();
         wrongKinds();
+        roomForTheLast();
         noRoom();
         Due.end("Promise02DeviceTest");
     }

@@ -103,11 +103,38 @@ public final class Promise03CallTest {
         }
     }
 
+    /** TermsNumbersTest has the other bodies. */
     private static void wraps() {
         one(PUMP, Integer.MAX_VALUE, READ, 1, ways(0, 2), Integer.MIN_VALUE, 100);
         one(VALVE, 1 << 30, WRITE, 0, ways(0, 1, 3), -(1 << 30), 62);
         one(METER, Integer.MIN_VALUE, REST, 1, ways(0, 1), Integer.MAX_VALUE - 2, 61);
         one(MUTE, 0, REST, Integer.MIN_VALUE, ways(0, 1), Integer.MIN_VALUE, 61);
+    }
+
+    /** The first and the last number there is of a device, an act and a way, and those just outside. */
+    private static void firstAndLastNumbers() {
+        LineOfHeirs house = new LineOfHeirs();
+        for (int d = 0; d < 300; d++) {
+            house.device(LEDGER, d);
+        }
+        Due.is("the first device", house, house.call(0, READ, 0, -1), 1, 0);
+        Due.is("the last device", house, house.call(299, READ, 0, -1), 300, 0);
+        Due.is("before the first device", house, house.call(-1, READ, 0, -1), 0, 1);
+        Due.is("behind the last device", house, house.call(300, READ, 0, -1), 0, 1);
+        Due.is("the last act", house, house.call(0, SUM, 0, 0), 0 - 10 - 6, 0);
+        Due.is("behind the last act", house, house.call(0, SUM + 1, 0, 0), 0, 1);
+        Due.is("before the first act", house, house.call(0, READ - 1, 0, 0), 0, 1);
+        Due.is("the last way", house, house.call(0, COUNT, 6, 0), 8, 0);
+        Due.is("behind the last way", house, house.call(0, COUNT, 7, 0), 0, 1);
+        Due.is("before the first way", house, house.call(0, COUNT, -1, 0), 0, 1);
+    }
+
+    private static void withoutDevices() {
+        LineOfHeirs house = new LineOfHeirs();
+        for (int way = 0; way < 7; way++) {
+            Due.is("call(0, 5, " + way + ", 1) without devices", house, house.call(0, COUNT, way, 1), 0, 1);
+        }
+        Due.chain("calls without devices", house);
     }
 
     private static void refused() {
@@ -165,6 +192,8 @@ public final class Promise03CallTest {
         ledgers();
         selected();
         wraps();
+        firstAndLastNumbers();
+        withoutDevices();
         refused();
         actsOfWays();
         changes();

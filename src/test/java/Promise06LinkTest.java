@@ -39,13 +39,48 @@ public final class Promise06LinkTest {
         Due.is("link(0, 2) after wrong ones", house, house.link(0, 2), 0, 0);
     }
 
+    /** "perhaps the same": one device has all the links there can be, from it and to it. */
+    private static void allToItself() {
+        LineOfHeirs house = new LineOfHeirs();
+        house.device(0, 1);
+        for (int i = 0; i < 400; i++) {
+            Due.is("link " + i + " to itself", house.link(0, 0), i);
+        }
+        Due.is("link 401 to itself", house, house.link(0, 0), LineOfHeirs.NONE, 5);
+        ends(house, 0, 400, 400);
+    }
+
+    /** From and to the last of 300 devices. */
+    private static void ofTheLastDevice() {
+        LineOfHeirs house = new LineOfHeirs();
+        for (int d = 0; d < 300; d++) {
+            house.device(0, d);
+        }
+        Due.is("link(299, 0)", house, house.link(299, 0), 0, 0);
+        Due.is("link(0, 299)", house, house.link(0, 299), 1, 0);
+        Due.is("link(299, 299)", house, house.link(299, 299), 2, 0);
+        Due.is("link(299, 300)", house, house.link(299, 300), LineOfHeirs.NONE, 1);
+        Due.is("link(300, 299)", house, house.link(300, 299), LineOfHeirs.NONE, 1);
+        ends(house, 299, 2, 2);
+        ends(house, 0, 1, 1);
+    }
+
+    private static void withoutDevices() {
+        LineOfHeirs house = new LineOfHeirs();
+        Due.is("link(0, 0) without devices", house, house.link(0, 0), LineOfHeirs.NONE, 1);
+        Due.is("size(1)", house.size(1), 0);
+    }
+
     private static void noRoom() {
         LineOfHeirs house = three();
         for (int i = 0; i < 400; i++) {
-            Due.is("link " + i, house, house.link(i % 3, 1), i, 0);
+            Due.is("link " + i, house.link(i % 3, 1), i);
         }
+        Due.is("status() of link 400", house.status(), 0);
         Due.is("link 401", house, house.link(0, 1), LineOfHeirs.NONE, 5);
+        Due.is("link 401, to itself", house, house.link(2, 2), LineOfHeirs.NONE, 5);
         Due.is("a wrong link where there is no room", house, house.link(0, 3), LineOfHeirs.NONE, 1);
+        Due.is("a wrong link from -1 where there is no room", house, house.link(-1, 0), LineOfHeirs.NONE, 1);
         Due.is("size(1)", house.size(1), 400);
         ends(house, 0, 134, 0);
         ends(house, 1, 133, 400);
@@ -55,6 +90,9 @@ public final class Promise06LinkTest {
     public static void main(String[] args) {
         numbers();
         wrong();
+        withoutDevices();
+        allToItself();
+        ofTheLastDevice();
         noRoom();
         Due.end("Promise06LinkTest");
     }
