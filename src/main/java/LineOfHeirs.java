@@ -452,6 +452,13 @@ public final class LineOfHeirs {
             return isType(type) && isWay(way) && (way <= UNIT || holds(borne[type], way));
         }
 
+        private int takingActOf(int type) {
+            if (bears(type, WRITES)) {
+                return PUT;
+            }
+            return bears(type, READS) ? PEEK : ADD;
+        }
+
         private boolean hasAct(int way, int act) {
             return isWay(way) && isAct(act) && holds(WAY_ACTS[way], act);
         }
@@ -475,6 +482,7 @@ public final class LineOfHeirs {
         private final Heritage heritage;
         private final Trail trail;
         private final int type;
+        private final int takingAct;
         private int v;
         private int c;
         private Link firstLink;
@@ -489,6 +497,7 @@ public final class LineOfHeirs {
             this.heritage = heritage;
             this.trail = trail;
             this.type = FIRST_KIND + kind;
+            this.takingAct = heritage.takingActOf(type);
             this.v = v;
         }
 
@@ -525,14 +534,7 @@ public final class LineOfHeirs {
         private void take(int x, int pulse) {
             taken++;
             latestPulse = pulse;
-            tookAnswer = act(takingAct(), x, 0);
-        }
-
-        private int takingAct() {
-            if (bears(WRITES)) {
-                return PUT;
-            }
-            return bears(READS) ? PEEK : ADD;
+            tookAnswer = act(takingAct, x, 0);
         }
 
         private int answer(int act, int x) {
